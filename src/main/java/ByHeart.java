@@ -47,8 +47,8 @@ public final class ByHeart {
 
     /** The words that stand for themselves, each in WORD_WIDTH signs; a word's number is its place here. */
     private static final String WORDS =
-            "heap  part  from  to    door  mark  law   gain  fade  cross weak  save  ear   plan  times slow  when  do    day   hold  head  cuts  least and   or    not   ";
-    private static final int WORD_WIDTH = 6;
+            "heap part from to   door mark law  gain fade crossweak save ear  plan timesslow when do   day  hold head cuts leastand  or   not  ";
+    private static final int WORD_WIDTH = 5;
     private static final int WORD_COUNT = 26;
     private static final int W_HEAP = 0;
     private static final int W_PART = 1;

@@ -1,0 +1,148 @@
+import java.io.IOException;
+import java.lang.reflect.Constructor;
+import java.lang.reflect.Field;
+import java.lang.reflect.Method;
+import java.lang.reflect.Modifier;
+import java.nio.charset.StandardCharsets;
+import java.nio.file.Files;
+import java.nio.file.Path;
+import java.util.ArrayList;
+import java.util.HashSet;
+import java.util.List;
+import java.util.Set;
+import java.util.TreeSet;
+import java.util.regex.Matcher;
+import java.util.regex.Pattern;
+
+/** The public face as the document has it, and the rules of the language that can be seen in the text. */
+public final class FaceTest {
+    private static final Check CHECK = new Check();
+
+    public static void main(String[] args) throws IOException {
+        face();
+        language();
+        manyObjects();
+        CHECK.finish();
+    }
+
+    private static void face() throws IOException {
+        String doc = Files.readString(Path.of("../shared/DOC.md"), StandardCharsets.UTF_8);
+        Set<String> want = new TreeSet<>();
+        Matcher m = Pattern.compile("(?m)^    public (int|long|boolean) (\\w+)\\(([^)]*)\\);").matcher(doc);
+        while (m.find()) {
+            want.add(m.group(1) + " " + m.group(2) + "(" + m.group(3).replaceAll(" \\w+(?=,|$)", "").replace(" ", "") + ")");
+        }
+        Set<String> got = new TreeSet<>();
+        Set<String> names = new HashSet<>();
+        for (Method method : ByHeart.class.getDeclaredMethods()) {
+            if (Modifier.isPublic(method.getModifiers())) {
+                List<String> types = new ArrayList<>();
+                for (Class<?> type : method.getParameterTypes()) {
+                    types.add(type.getName());
+                }
+                got.add(method.getReturnType() + " " + method.getName() + "(" + String.join(",", types) + ")");
+                names.add(method.getName());
+            }
+        }
+        CHECK.due("methods", want.size(), 41);
+        CHECK.due("the methods of the face " + want + " are those there are " + got, want.equals(got), true);
+        CHECK.due("final", Modifier.isFinal(ByHeart.class.getModifiers()), true);
+        for (Method method : ByHeart.class.getDeclaredMethods()) {
+            int how = method.getModifiers();
+            CHECK.due(method + " is public or private", Modifier.isPublic(how) || Modifier.isPrivate(how), true);
+            CHECK.due(method + " has no public one's name", Modifier.isPublic(how) || !names.contains(method.getName()), true);
+            CHECK.due(method + " has 7 parameters at most", method.getParameterCount() <= 7, true);
+        }
+        for (Field field : ByHeart.class.getDeclaredFields()) {
+            CHECK.due(field + " is private", Modifier.isPrivate(field.getModifiers()), !field.getName().equals("NONE"));
+            CHECK.due(field + " is final if static", !Modifier.isStatic(field.getModifiers()) || Modifier.isFinal(field.getModifiers()), true);
+        }
+        Constructor<?>[] made = ByHeart.class.getDeclaredConstructors();
+        CHECK.due("constructors", made.length, 1);
+        CHECK.due("public", Modifier.isPublic(made[0].getModifiers()), true);
+        CHECK.due("NONE", ByHeart.NONE, -1);
+        for (Class<?> inside : ByHeart.class.getDeclaredClasses()) {
+            CHECK.due(inside + " is static", Modifier.isStatic(inside.getModifiers()), true);
+            int fields = 0;
+            for (Field field : inside.getDeclaredFields()) {
+                fields += Modifier.isStatic(field.getModifiers()) ? 0 : 1;
+            }
+            CHECK.due(inside + " has some twenty fields at most", fields <= 20, true);
+        }
+        CHECK.due("some twelve classes at most", ByHeart.class.getDeclaredClasses().length <= 11, true);
+    }
+
+    private static void language() throws IOException {
+        String source = Files.readString(Path.of("src/main/java/ByHeart.java"), StandardCharsets.UTF_8);
+        String code = source.replaceAll("(?s)/\\*.*?\\*/", "").replaceAll("//[^\n]*", "").replaceAll("\"[^\"]*\"", "\"\"");
+        for (String word : "throw throws try catch synchronized assert package var Object float double instanceof".split(" ")) {
+            CHECK.due("no " + word, Pattern.compile("\\b" + word + "\\b").matcher(code).find(), false);
+        }
+        CHECK.due("no lambda or method reference", code.contains("->") || code.contains("::"), false);
+        CHECK.due("no Exact", code.contains("Exact"), false);
+        CHECK.due("no joining of texts by +", Pattern.compile("\"\"\\s*\\+|\\+\\s*\"\"").matcher(code).find(), false);
+        CHECK.due("one import", code.split("\\bimport\\b").length, 2);
+        CHECK.due("signs of 127 at most", source.chars().allMatch(c -> c < 128), true);
+        CHECK.due("no line above 150 signs", source.lines().allMatch(line -> line.length() <= 150), true);
+        String outside = code.substring(code.indexOf("public int feed"), code.indexOf("private static final class"));
+        CHECK.due("no call makes an object", outside.contains("new "), false);
+    }
+
+    /** Every call with numbers far out, in an empty and in a full state: none may throw or fail to end. */
+    private static void manyObjects() {
+        int[] far = {Integer.MIN_VALUE, -1000001, -3, -2, -1, 0, 1, 2, 23, 24, 40, 1000, 1001, 1000000, Integer.MAX_VALUE};
+        for (int state = 0; state < 2; state++) {
+            ByHeart x = state == 0 ? new ByHeart() : Check.with("heap a x y;heap b x;door 1;plan p from 0 to 1 times 1 slow 1;");
+            int before = x.about(0);
+            for (int a : far) {
+                for (int b : far) {
+                    callAll(x, a, b);
+                }
+            }
+            CHECK.due("the bars are there still", x.about(0), before);
+        }
+    }
+
+    private static void callAll(ByHeart x, int a, int b) {
+        x.end(a);
+        x.fault(a);
+        x.bar(a, b);
+        x.part(a, b);
+        x.set(a, b, true);
+        x.set(a, b, false);
+        x.alike(a, b);
+        x.fork(a);
+        x.behind(a, b);
+        x.saved(a);
+        x.play(a, b);
+        x.slow(a, b);
+        x.latest(a);
+        x.days(a);
+        x.through(a, b, a, b);
+        x.through(0, a, b, 0);
+        x.put(a, b, -1, 0, 0);
+        x.put(1, 1, a, b, 1);
+        x.plans(a, b);
+        x.plan(a);
+        x.practise(a);
+        x.reach(a);
+        x.finger(a);
+        x.diary(a, b, a);
+        x.diary(a, 0, b);
+        x.paper(a, b, true);
+        x.untell(a > 0, b);
+        x.later(a);
+        x.cuts(a, b);
+        x.diaries(a, b);
+        x.luck(a, b);
+        x.hang(a, b);
+        x.laws(a, b);
+        x.hidden(a);
+        x.months(a, b);
+        x.back(a, b);
+        x.seed(a);
+        x.image(a);
+        x.again(b);
+        x.about(a);
+    }
+}
