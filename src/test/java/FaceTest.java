@@ -91,8 +91,8 @@ public final class FaceTest {
     /** Every call with numbers far out, in an empty and in a full state: none may throw or fail to end. */
     private static void manyObjects() {
         int[] far = {Integer.MIN_VALUE, -1000001, -3, -2, -1, 0, 1, 2, 23, 24, 40, 1000, 1001, 1000000, Integer.MAX_VALUE};
-        for (int state = 0; state < 2; state++) {
-            ByHeart x = state == 0 ? new ByHeart() : Check.with("heap a x y;heap b x;door 1;plan p from 0 to 1 times 1 slow 1;");
+        ByHeart[] states = {new ByHeart(), Check.with("heap a x y;heap b x;door 1;plan p from 0 to 1 times 1 slow 1;"), full()};
+        for (ByHeart x : states) {
             int before = x.about(0);
             for (int a : far) {
                 for (int b : far) {
@@ -101,6 +101,36 @@ public final class FaceTest {
             }
             CHECK.due("the bars are there still", x.about(0), before);
         }
+    }
+
+    /** As much of everything as there can be. */
+    private static ByHeart full() {
+        StringBuilder s = new StringBuilder();
+        for (int i = 0; i < 8; i++) {
+            s.append("heap ").append((char) ('a' + i)).append(" x x ").append(i % 2 == 0 ? "x;" : "y;");
+        }
+        for (int i = 0; i < 24; i++) {
+            s.append("door ").append(i).append(";mark ").append(i).append(";");
+        }
+        for (int i = 0; i < 4; i++) {
+            s.append("part ").append((char) ('a' + i)).append(" from a to h;");
+        }
+        for (int i = 0; i < 6; i++) {
+            s.append("plan ").append((char) ('p' + i)).append(" from 0 to 23 times 20 slow 20;");
+        }
+        ByHeart x = Check.with(s.toString());
+        for (int i = 0; i < 40; i++) {
+            x.diary(999, 23, 23);
+            x.paper(999, 23, false);
+        }
+        String six = "when ((((((cuts 23)))))) and not not not not not not not hold 23 = least do p;" + "when 0 do q;".repeat(5);
+        CHECK.due("six rules", Check.tellRules(x, six), 6);
+        String wide = "when 1 * (1" + " - day".repeat(32) + ") do p;" + "when 1 do q;".repeat(5);
+        CHECK.due("40 units", Check.tellRules(x, wide) == 6 && x.about(11) == 40, true);
+        String deep = "when not 1 < (1 * (1 * (1 * (1 * (1 * (1 + 1 and 2)))))) or 0 do p;";
+        CHECK.due("deep ones", Check.tellRules(x, deep), 1);
+        x.slow(0, 23);
+        return x;
     }
 
     private static void callAll(ByHeart x, int a, int b) {

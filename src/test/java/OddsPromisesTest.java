@@ -128,6 +128,13 @@ public final class OddsPromisesTest {
         for (int[] c : can) {
             row("19: so many", x, c[0], c[1], -1, 0, new int[] {-1, -1, -1});
         }
+        x.set(1, 1, true);
+        row("19: two without a mark", x, 0, 2, -1, 0, new int[] {125000, 0, 2});
+        x.set(1, 0, true);
+        row("19: too few without a mark", x, 0, 2, -1, 0, new int[] {-1, -1, -1});
+        row("19: one without a mark", x, 0, 1, -1, 0, new int[] {125000, 2, -1});
+        x.set(1, 2, true);
+        row("19: none without a mark", x, 0, 1, -1, 0, new int[] {-1, -1, -1});
         CHECK.due("19: jolt", x.put(1, 0, 3, 0, -1), -1);
         CHECK.due("19: jolt", x.put(1, 0, -2, 0, -1), -1);
         CHECK.due("19: odds", x.put(1, 0, 0, 1001, -1), -1);
@@ -218,6 +225,9 @@ public final class OddsPromisesTest {
         CHECK.due("24: a goal that can't be", x.reach(-1), -1);
         CHECK.due("24: nothing is changed", x.bar(0, 0) + x.about(7), 0);
         CHECK.due("24: no bars", new ByHeart().reach(0), -1);
+        CHECK.due("24: all", Check.with("heap a x;" + law(1, 0, 0, 0, 0, 0)).reach(1000000), 0);
+        CHECK.due("24: just so much on the 60th day", ruled("when day > 58 do q;").reach(525625), 60);
+        CHECK.due("24: not quite", ruled("when day > 58 do q;").reach(525626), -1);
         CHECK.due("24: on the 60th day", ruled("when day > 58 do q;").reach(500000), 60);
         CHECK.due("24: on the 61st", ruled("when day > 59 do q;").reach(500000), -1);
     }

@@ -22,6 +22,7 @@ public final class StatePromisesTest {
         seed();
         image();
         about();
+        shorterPiece();
         CHECK.finish();
     }
 
@@ -374,7 +375,8 @@ public final class StatePromisesTest {
         for (int i = 0; i < 99; i++) {
             x.days(1000);
         }
-        x.days(993);
+        x.days(992);
+        CHECK.due("21: to 100000", x.plan(2), 100000);
         CHECK.due("21: above 100000", x.plan(0), -1);
         bars("21: nothing was done", x, 3, 4, 4, 5);
         CHECK.due("21: nothing was done", x.bar(0, 0) < 10, true);
@@ -450,6 +452,35 @@ public final class StatePromisesTest {
         x.days(1);
         CHECK.due("41: the newer one", x.again(0), 8);
         CHECK.due("40: box 1", x.image(1), 8);
+    }
+
+    /** Nothing of a longer piece may be seen in the one behind it. */
+    private static void shorterPiece() {
+        ByHeart x = Check.with("heap a x y z x y z x y z;heap b x y z x y z x y z;part p from a to b;door 2;door 3;mark 4;"
+                + law(500, 0, 100, 0, 24, 24) + "plan q from 0 to 8 times 1 slow 1;");
+        x.plan(0);
+        x.days(3);
+        x.slow(0, 17);
+        x.diary(0, 3, 3);
+        x.paper(0, 3, false);
+        Check.tell(x, "heap a x y x;" + law(500, 0, 100, 0, 24, 24));
+        CHECK.due("10: fork(0)", x.fork(0), 2);
+        CHECK.due("10: fork(1)", x.fork(1), -1);
+        CHECK.due("11: forks()", x.forks(), 1);
+        CHECK.due("13: saved(0)", x.saved(0), -1);
+        CHECK.due("7: part(0, 0)", x.part(0, 0), -1);
+        CHECK.due("21: plan(0)", x.plan(0), -1);
+        x.play(0, 0);
+        CHECK.due("12: behind(2, 0)", x.behind(2, 0), 50);
+        CHECK.due("12: behind(2, -2)", x.behind(2, -2), 950);
+        CHECK.due("12: behind(1, -2)", x.behind(1, -2), 1000);
+        CHECK.due("18: through(0, ..)", x.through(0, -1, 0, 0), 999999);
+        CHECK.due("19: put", x.put(1, 0, 2, 1000, -1), 0);
+        CHECK.due("29: untell", x.untell(false, 0), false);
+        CHECK.due("35: laws", x.laws(0, 0), 201);
+        CHECK.due("36: hidden", x.hidden(1), 1);
+        CHECK.due("34: hang", x.hang(0, 0), -1000000);
+        CHECK.due("32: diaries", x.diaries(0, 0), 0);
     }
 
     private static void about() {

@@ -13,6 +13,11 @@ public final class TextPromisesTest {
         pieceFaults();
         pieceLimits();
         fault();
+        cutOff(2, 13, 13, "heap abcdefghi x;");
+        cutOff(2, 15, 15, "heap a x;door 0z");
+        cutOff(2, 15, 15, "heap a x;door 00");
+        cutOff(2, 8, 8, "heap a x;");
+        cutOff(2, 9, 9, "heap a x ;");
         rules();
         ruleFaults();
         ruleLimits();
@@ -246,6 +251,16 @@ public final class TextPromisesTest {
         Check.tellRules(x, "when 1 do z;");
         CHECK.due("5: of rules()", x.fault(0), 5);
         CHECK.due("5: of rules()", x.fault(1), 10);
+    }
+
+    /** What lies on the tape behind its end is no part of the text. */
+    private static void cutOff(int fault, int place, int n, String text) {
+        ByHeart x = new ByHeart();
+        Check.type(x, text);
+        x.end(n);
+        x.piece();
+        CHECK.due("3: " + text + " cut at " + n + ": fault(0)", x.fault(0), fault);
+        CHECK.due("3: " + text + " cut at " + n + ": fault(1)", x.fault(1), place);
     }
 
     private static void rules() {
