@@ -17,6 +17,17 @@ final class Check {
         due(call, got ? 1 : 0, want ? 1 : 0);
     }
 
+    /** The fault of a text, at the place where a caret stands in it; 0 is none. */
+    void dueFault(ByHeart x, boolean piece, int fault, String text) {
+        int place = text.indexOf('^');
+        String plain = text.replace("^", "");
+        type(x, plain);
+        int got = piece ? x.piece() : x.rules();
+        due(plain + " is fine", got >= 0, fault == 0);
+        due(plain + " fault(0)", x.fault(0), fault);
+        due(plain + " fault(1)", x.fault(1), fault == 0 ? -1 : place);
+    }
+
     int wrong() {
         return wrong;
     }

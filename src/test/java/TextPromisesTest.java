@@ -117,21 +117,11 @@ public final class TextPromisesTest {
 
     /** Faults of a text for piece(); 0 is none. */
     private static void told(int fault, String text) {
-        due(new ByHeart(), true, fault, text);
+        CHECK.dueFault(new ByHeart(), true, fault, text);
     }
 
     private static void ruled(int fault, String text) {
-        due(Check.with(TWO), false, fault, text);
-    }
-
-    private static void due(ByHeart x, boolean piece, int fault, String text) {
-        int place = text.indexOf('^');
-        String plain = text.replace("^", "");
-        Check.type(x, plain);
-        int got = piece ? x.piece() : x.rules();
-        CHECK.due(plain + " is fine", got >= 0, fault == 0);
-        CHECK.due(plain + " fault(0)", x.fault(0), fault);
-        CHECK.due(plain + " fault(1)", x.fault(1), fault == 0 ? -1 : place);
+        CHECK.dueFault(Check.with(TWO), false, fault, text);
     }
 
     private static void pieceFaults() {
