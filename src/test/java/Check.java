@@ -67,6 +67,35 @@ final class Check {
         return x.rules();
     }
 
+    /** A w behind which the next draw of 1000 is least .. most. */
+    static int seedFor(int least, int most) {
+        return seedForRow(new int[] {1, least, most});
+    }
+
+    /** A w behind which the next draws are within these: how many, the least, the most; then those behind them. */
+    static int seedForRow(int[]... draws) {
+        for (int w = 1; w != 0; w++) {
+            if (drawsAre(w, draws)) {
+                return w;
+            }
+        }
+        throw new IllegalStateException("no such row of draws");
+    }
+
+    private static boolean drawsAre(int seed, int[][] draws) {
+        int w = seed;
+        for (int[] d : draws) {
+            for (int i = 0; i < d[0]; i++) {
+                w = w * 1103515245 + 12345;
+                int draw = (w >>> 16) % 1000;
+                if (draw < d[1] || draw > d[2]) {
+                    return false;
+                }
+            }
+        }
+        return true;
+    }
+
     static ByHeart with(String piece) {
         ByHeart x = new ByHeart();
         if (tell(x, piece) < 0) {

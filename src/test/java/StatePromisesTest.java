@@ -30,16 +30,6 @@ public final class StatePromisesTest {
         return "law gain " + gain + " fade " + fade + " cross " + cross + " weak " + weak + " save " + save + " ear " + ear + ";";
     }
 
-    /** A w behind which the next draw of 1000 is least .. most. */
-    private static int seedFor(int least, int most) {
-        for (int w = 1;; w++) {
-            int draw = (w * 1103515245 + 12345 >>> 16) % 1000;
-            if (draw >= least && draw <= most) {
-                return w;
-            }
-        }
-    }
-
     private static void bars(String call, ByHeart x, int what, int... want) {
         for (int i = 0; i < want.length; i++) {
             CHECK.due(call + ": bar(" + i + ", " + what + ")", x.bar(i, what), want[i]);
@@ -227,13 +217,13 @@ public final class StatePromisesTest {
         for (int i = 0; i < 20; i++) {
             x.slow(2, 2);
         }
-        x.seed(seedFor(500, 990));
+        x.seed(Check.seedFor(500, 990));
         CHECK.due("14: saved beyond the bar to", x.play(0, 1), 2);
         told("16: at the end", x, 1, 2, 1, 1, 0, 0);
         x = Check.with("heap a x;" + law(500, 0, 0, 500, 2, 2));
-        x.seed(seedFor(499, 499));
+        x.seed(Check.seedFor(499, 499));
         CHECK.due("14: below stop", x.play(0, 0) + 10 * x.latest(0), 21);
-        x.seed(seedFor(500, 500));
+        x.seed(Check.seedFor(500, 500));
         CHECK.due("14: not below stop", x.play(0, 0) + 10 * x.latest(0), 1);
     }
 
@@ -250,15 +240,15 @@ public final class StatePromisesTest {
         for (int[] c : cases) {
             ByHeart x = Check.with(piece);
             for (int bar = 2; bar <= 4; bar += 2) {
-                x.seed(seedFor(900, 999));
+                x.seed(Check.seedFor(900, 999));
                 while (x.bar(bar, 0) < 750) {
                     x.play(bar, bar);
-                    x.seed(seedFor(900, 999));
+                    x.seed(Check.seedFor(900, 999));
                 }
             }
             CHECK.due("14: held", x.bar(2, 0) + x.bar(4, 0), 1500);
             CHECK.due("14: behind", x.behind(0, -1) + x.behind(0, 2) + x.behind(0, 4), 250);
-            x.seed(seedFor(c[0], c[0]));
+            x.seed(Check.seedFor(c[0], c[0]));
             x.play(0, 0);
             int took = x.bar(2, 0) > 750 ? 2 : x.bar(4, 0) > 750 ? 4 : 0;
             CHECK.due("14: a draw of " + c[0] + " takes", took, c[1]);
@@ -272,7 +262,7 @@ public final class StatePromisesTest {
                 CHECK.due("14: it goes on behind the other", x.latest(1) > c[1] || x.latest(0) == 2, true);
             }
             x.set(1, 0, true);
-            x.seed(seedFor(101, 101));
+            x.seed(Check.seedFor(101, 101));
             x.play(0, 0);
             CHECK.due("14: a mark, it goes on", x.latest(0) + x.latest(5), 0);
         }

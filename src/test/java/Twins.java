@@ -48,7 +48,47 @@ final class Twins {
         return x;
     }
 
-    /** The same, on the last day there is. */
+    /** As much of everything as there can be: bars, heaps, parts, plans, doors, marks, diaries, papers, rules, units, bytes. */
+    static ByHeart full() {
+        StringBuilder s = new StringBuilder();
+        for (int i = 0; i < 8; i++) {
+            s.append("heap ").append((char) ('a' + i)).append(i % 2 == 0 ? " x y z;" : " x y w;");
+        }
+        for (int i = 0; i < 24; i++) {
+            s.append("door ").append(i).append(";mark ").append(i).append(";");
+        }
+        for (int i = 0; i < 4; i++) {
+            s.append("part ").append((char) ('a' + i)).append(" from a to h;");
+        }
+        for (int i = 0; i < 6; i++) {
+            s.append("plan ").append((char) ('p' + i)).append(" from ").append(4 * i).append(" to 23 times 1 slow 1;");
+        }
+        ByHeart x = Check.with(s.toString());
+        Check.tellRules(x, "when day * 3 = 9 + hold 23 - 1 + 1 * 2 do u;".repeat(5) + "when 1 < 2 + 3 + 4 + 5 do p;");
+        x.slow(0, 11);
+        x.days(1);
+        x.slow(8, 20);
+        for (int i = 0; i < 40; i++) {
+            x.diary(i, i % 24, 23);
+            x.paper(i, i % 24, i % 3 == 0);
+            x.later(1);
+            if (i % 4 == 0) {
+                x.untell(false, i);
+                x.untell(true, i / 2);
+            }
+        }
+        for (int box = 0; box < 3; box++) {
+            x.image(box);
+            x.finger(3 * box + 9);
+            x.play(0, 23);
+        }
+        for (int i = 0; i < 75; i++) {
+            x.feed(i, i, i, i, i);
+        }
+        return x;
+    }
+
+    /** The same as the rich one, on the last day there is. */
     static ByHeart lastDay() {
         ByHeart x = rich();
         for (int i = 0; i < 99; i++) {
@@ -58,7 +98,7 @@ final class Twins {
         return x;
     }
 
-    /** The same, at the last time there is. */
+    /** The same as the rich one, at the last time there is. */
     static ByHeart lastTime() {
         ByHeart x = rich();
         for (int i = 0; i < 99; i++) {
@@ -73,6 +113,14 @@ final class Twins {
         ByHeart x = state.get();
         check.due(call, asked.applyAsLong(x), want);
         compare(check, call, x, state.get(), true);
+    }
+
+    /** The call only asks: it answers the same twice, and leaves no trace. */
+    static void asksOnly(Check check, String call, Supplier<ByHeart> state, ToLongFunction<ByHeart> asked) {
+        ByHeart x = state.get();
+        leaves(check, call, state, asked, asked.applyAsLong(x));
+        long once = asked.applyAsLong(x);
+        check.due(call + " once more", asked.applyAsLong(x), once);
     }
 
     /** What is told by both must be one; a text that was read leaves its fault, so that may be left out. */
