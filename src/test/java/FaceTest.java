@@ -63,6 +63,14 @@ public final class FaceTest {
         CHECK.due("NONE", ByHeart.NONE, -1);
         for (Class<?> inside : ByHeart.class.getDeclaredClasses()) {
             CHECK.due(inside + " is static", Modifier.isStatic(inside.getModifiers()), true);
+            for (Method method : inside.getDeclaredMethods()) {
+                CHECK.due(method + " is not public", Modifier.isPublic(method.getModifiers()), false);
+                CHECK.due(method + " has no public one's name", names.contains(method.getName()), false);
+                CHECK.due(method + " has 7 parameters at most", method.getParameterCount() <= 7, true);
+            }
+            for (Field field : inside.getDeclaredFields()) {
+                CHECK.due(field + " is final if static", !Modifier.isStatic(field.getModifiers()) || Modifier.isFinal(field.getModifiers()), true);
+            }
             int fields = 0;
             for (Field field : inside.getDeclaredFields()) {
                 fields += Modifier.isStatic(field.getModifiers()) ? 0 : 1;
@@ -84,8 +92,25 @@ public final class FaceTest {
         CHECK.due("one import", code.split("\\bimport\\b").length, 2);
         CHECK.due("signs of 127 at most", source.chars().allMatch(c -> c < 128), true);
         CHECK.due("no line above 150 signs", source.lines().allMatch(line -> line.length() <= 150), true);
+        CHECK.due("methods of 60 lines at most", longestMethod(source.lines().toArray(String[]::new)) <= 60, true);
         String outside = code.substring(code.indexOf("public int feed"), code.indexOf("private static final class"));
         CHECK.due("no call makes an object", outside.contains("new "), false);
+    }
+
+    /** How many lines the longest block of a class or of a class inside takes, from its first line to its brace. */
+    private static int longestMethod(String[] lines) {
+        int longest = 0;
+        for (int i = 0; i < lines.length; i++) {
+            String indent = lines[i].replaceAll("\\S.*", "");
+            boolean opens = lines[i].endsWith(") {") && (indent.length() == 4 || indent.length() == 8);
+            for (int k = i + 1; opens && k < lines.length; k++) {
+                if (lines[k].equals(indent + "}")) {
+                    longest = Math.max(longest, k - i + 1);
+                    opens = false;
+                }
+            }
+        }
+        return longest;
     }
 
     /** Every call with numbers far out, in an empty and in a full state: none may throw or fail to end. */

@@ -25,6 +25,9 @@ public final class OddsEdgesTest {
         plansOne();
         plansSix();
         plansFirstRow();
+        plansFromNow();
+        putFromNow();
+        putMarkAtLast();
         nothingIsChanged();
         CHECK.finish();
     }
@@ -357,6 +360,60 @@ public final class OddsEdgesTest {
                 due("20: the first row", x.plans(n, what), 0);
             }
         }
+    }
+
+    /** From what is held as it is asked, be that more or less than when it was asked ahead. */
+    private static void plansFromNow() {
+        ByHeart x = Check.with("heap a x y;" + law(500, 0, 0, 1000, 0, 0) + "plan a from 0 to 0 times 1 slow 0;plan b from 1 to 1 times 1 slow 0;");
+        x.image(0);
+        due("20: one of both", x.plans(1, -1), 0);
+        x.plan(0);
+        due("20: the other one, from now", x.plans(1, 0), 1);
+        due("20: 500 of each", x.plans(1, -1), 250000);
+        x.plan(0);
+        x.plan(1);
+        x.plan(1);
+        due("20: 875 of one, 750 of the other", x.plans(1, -1), 656250);
+        x.again(0);
+        due("20: less than ahead", x.plans(1, -1), 0);
+        due("20: the first row", x.plans(1, 0), 0);
+        due("20: two days", x.plans(2, -1), 250000);
+    }
+
+    private static void putFromNow() {
+        ByHeart x = Check.with("heap a x y z;" + law(500, 0, 0, 1000, 4, 0));
+        x.image(0);
+        due("19: nothing is held", x.put(1, 0, -1, 0, -1), 0);
+        due("19: the least", x.put(1, 0, -1, 0, 0), 0);
+        x.slow(2, 2);
+        due("19: a door where it is held", x.put(1, 0, -1, 0, 0), 2);
+        due("19: a fourth comes through", x.put(1, 0, -1, 0, -1), 250000);
+        x.again(0);
+        due("19: less than ahead", x.put(1, 0, -1, 0, -1), 0);
+        due("19: the least", x.put(1, 0, -1, 0, 0), 0);
+    }
+
+    /** Bar 23 crosses by 50 behind bar 21, from where it comes to a jolt at bar 22 once more. */
+    private static void putMarkAtLast() {
+        StringBuilder heap = new StringBuilder("heap a");
+        for (int i = 0; i < 21; i++) {
+            heap.append(' ').append((char) ('a' + i));
+        }
+        ByHeart x = Check.with(heap + " x y x;" + law(500, 0, 100, 0, 1, 0));
+        x.play(21, 21);
+        due("12: cross", x.behind(23, 21), 50);
+        due("19: a mark at the last bar", x.put(0, 1, 22, 500, 0), 23);
+        due("19: the half that the jolt leaves", x.put(0, 1, 22, 500, -1), 500000);
+        due("19: two marks, the least beside it", x.put(0, 2, 22, 500, 0), 0);
+        due("19: and the last", x.put(0, 2, 22, 500, 1), 23);
+        due("19: the half", x.put(0, 2, 22, 500, -1), 500000);
+        due("19: a door at the last bar, too", x.put(1, 1, 22, 500, 0), 23);
+        due("19: and a mark there", x.put(1, 1, 22, 500, 1), 23);
+        due("19: all come through", x.put(1, 1, 22, 500, -1), 1000000);
+        x.set(1, 23, true);
+        due("19: not where a mark is, the least", x.put(0, 1, 22, 500, 0), 0);
+        due("19: the half", x.put(0, 1, 22, 500, -1), 500000);
+        due("19: of two that don't help, the least", x.put(0, 2, 22, 500, 1), 1);
     }
 
     private static void nothingIsChanged() {

@@ -452,6 +452,18 @@ public final class RuleEdgesTest {
         Check.tellRules(x, "when cuts 1 = 1 do q;");
         due("24: by cuts as known now", x.reach(500000), 1);
         due("23: by cuts as known now", x.practise(2), 2);
+        // Each of the three asks what is known now for itself.
+        x = with("when cuts 1 = 1 do q;");
+        x.diary(0, 1, 1);
+        due("24: told since then", x.reach(500000), 1);
+        x.untell(false, 0);
+        due("24: untold since then", x.reach(500000), -1);
+        x.diary(0, 1, 1);
+        due("23: told since then", x.practise(1), 1);
+        x.untell(false, 1);
+        due("23: untold since then", x.practise(1), 0);
+        x.diary(0, 1, 1);
+        due("25: told since then", x.rule(), 0);
     }
 
     private static void firstRule() {
@@ -528,6 +540,9 @@ public final class RuleEdgesTest {
         // Only the day that begins as 59 brings what is asked: it is the 60th.
         due("24: 60 days", with("when day = 59 do q;").reach(500000), 60);
         due("24: 61 days are more than 60", with("when day = 60 do q;").reach(500000), -1);
+        // Held 450 of both then: 725 of 1000 go on at each, 525,625 of a million.
+        due("24: just that many by the 60th", with("when day = 59 do q;").reach(525625), 60);
+        due("24: one more", with("when day = 59 do q;").reach(525626), -1);
         due("24: 59", with("when day = 58 do q;").reach(500000), 59);
         ByHeart x = with("when day = 69 do q;");
         x.days(10);

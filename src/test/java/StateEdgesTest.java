@@ -3,6 +3,7 @@ public final class StateEdgesTest {
     private static final Check CHECK = new Check();
 
     public static void main(String[] args) {
+        newObject();
         grows();
         fades();
         fadesLeast();
@@ -24,6 +25,8 @@ public final class StateEdgesTest {
         playRange();
         playEnds();
         playCrossesAtTo();
+        playMarked();
+        playAnew();
         playHundred();
         playHundredOtherEnds();
         slowRange();
@@ -73,6 +76,63 @@ public final class StateEdgesTest {
             x.play(bar, bar);
         }
         due("held", x.bar(bar, 0), hold);
+    }
+
+    /** Promise 1: every call on an empty piece, with what can be taken there, and what it answers. */
+    private static void newObject() {
+        due("the constants: NONE", ByHeart.NONE, -1);
+        ByHeart x = new ByHeart();
+        int[] about = {0, 0, 0, 0, 0, 0, 0, 0, 0, 1, 0, 0};
+        for (int what = 0; what < 12; what++) {
+            due("1: about(" + what + ")", x.about(what), about[what]);
+        }
+        due("1: fault(0)", x.fault(0), 0);
+        due("1: fault(1)", x.fault(1), -1);
+        due("1: bar(0, 0)", x.bar(0, 0), -1);
+        due("1: part(0, 0)", x.part(0, 0), -1);
+        CHECK.due("1: set(0, 0, true)", x.set(0, 0, true), false);
+        CHECK.due("1: set(1, 0, false)", x.set(1, 0, false), false);
+        due("1: alike(0, 1)", x.alike(0, 1), -1);
+        due("1: fork(0)", x.fork(0), -1);
+        due("1: forks()", x.forks(), 0);
+        due("1: behind(0, -1)", x.behind(0, -1), -1);
+        due("1: saved(0)", x.saved(0), -1);
+        due("1: play(0, 0)", x.play(0, 0), -1);
+        due("1: slow(0, 0)", x.slow(0, 0), -1);
+        for (int what = 0; what < 6; what++) {
+            due("1: latest(" + what + ")", x.latest(what), -1);
+        }
+        due("1: days(0)", x.days(0), 0);
+        due("1: through(0, -1, 0, 0)", x.through(0, -1, 0, 0), -1);
+        due("1: put(1, 0, -1, 0, -1)", x.put(1, 0, -1, 0, -1), -1);
+        due("1: plans(1, -1)", x.plans(1, -1), -1);
+        due("1: plan(0)", x.plan(0), -1);
+        due("1: rules()", x.rules(), 0);
+        due("1: practise(0)", x.practise(0), 0);
+        due("1: reach(0)", x.reach(0), -1);
+        due("1: rule()", x.rule(), -1);
+        due("1: finger(0)", x.finger(0), -1);
+        due("1: diary(0, 0, 0)", x.diary(0, 0, 0), -1);
+        due("1: paper(0, 0, true)", x.paper(0, 0, true), -1);
+        CHECK.due("1: untell(false, 0)", x.untell(false, 0), false);
+        CHECK.due("1: untell(true, 0)", x.untell(true, 0), false);
+        due("1: cuts(0, 0)", x.cuts(0, 0), -1);
+        due("1: diaries(0, 0)", x.diaries(0, 0) + x.diaries(1, 0), 0);
+        due("1: luck(0, 0)", x.luck(0, 0), -1);
+        due("1: hang(0, 0)", x.hang(0, 0), -1000000);
+        due("1: laws(0, 0)", x.laws(0, 0), 201);
+        due("1: hidden(0)", x.hidden(0), 0);
+        due("1: months(0, 0)", x.months(0, 0), -1);
+        due("1: back(0, 0)", x.back(0, 0), -1);
+        due("1: again(0)", x.again(0), -1);
+        due("1: later(0)", x.later(0), 0);
+        due("1: seed(1)", x.seed(1), 1);
+        due("1: image(2)", x.image(2), 0);
+        due("1: again(2)", x.again(2), 0);
+        due("1: piece()", x.piece(), 0);
+        due("17: days go on without a piece", x.days(1000), 1000);
+        due("30: so does the time", x.later(1000), 1000);
+        due("23: so do days by rules", x.practise(60) + x.about(7), 1060);
     }
 
     // ---- HOLD, HEAD, OLD, DAY, LEARNT ----
@@ -588,6 +648,37 @@ public final class StateEdgesTest {
         x.seed(Check.seedForRow(stop, cross, new int[] {1, 949, 999}));
         due("14: at the end by the 100th", x.play(7, 7), 100);
         told("16: at the end", x, 1, 9, 1, 1, 1, 98);
+    }
+
+    private static void playMarked() {
+        // Bar 2 would cross to bar 0 by 50: with a mark the draw that would goes on.
+        for (int draw = 0; draw <= 50; draw += 49) {
+            ByHeart x = Check.with("heap a x y;heap b x z;mark 2;" + law(500, 0, 100, 0, 0, 0));
+            holdBy(x, 0, 500);
+            x.seed(Check.seedFor(draw, draw));
+            due("14: one bar", x.play(2, 2), 1);
+            told("16: at the bar to", x, 0, 2, 0, 0, 0, 0);
+            bars("14: its own link", x, 0, 500, 0, 500, 0);
+        }
+        // The 24th bar's mark, and the others' not.
+        ByHeart x = Check.with(looks(24, "x") + "mark 23;" + law(500, 0, 100, 0, 0, 0));
+        holdBy(x, 22, 999);
+        x.seed(Check.seedFor(0, 898));
+        due("14: on at bar 23", x.play(23, 23), 1);
+        due("14: crossed", x.latest(5), 0);
+    }
+
+    /** Nothing of the play ahead is counted in the next one. */
+    private static void playAnew() {
+        ByHeart x = Check.with("heap a x y z;door 1;" + law(500, 0, 0, 1000, 4, 0));
+        x.play(0, 2);
+        told("16: saved, then lost", x, 2, 1, 2, 1, 2, 0);
+        for (int i = 0; i < 40; i++) {
+            x.slow(2, 2);
+        }
+        x.seed(Check.seedFor(500, 999));
+        x.play(2, 2);
+        told("16: on", x, 0, 2, 0, 0, 0, 0);
     }
 
     private static void slowRange() {

@@ -633,6 +633,11 @@ public final class TellingEdgesTest {
         x.finger(0);
         due("38: both are 0 again", x.back(0, 0), -1);
         due("38: both are 0 again", x.back(0, 1), -1);
+        x = Check.with("heap a x;" + law(1, 0));
+        x.play(0, 0);
+        due("38: 0 of 1", x.back(0, 0) * 10 + x.back(0, 1), 1);
+        x.finger(0);
+        due("38: 1 of 1", x.back(0, 0) * 10 + x.back(0, 1), 11);
     }
 
     private static void behindAnotherPiece() {

@@ -13,6 +13,7 @@ public final class TextEdgesTest {
         longestPiece();
         everyByte();
         words();
+        wordsApart();
         numbers();
         blanks();
         linesCutOff();
@@ -29,6 +30,9 @@ public final class TextEdgesTest {
         placesOfFaults();
         leastFaultAtAPlace();
         emptyPiece();
+        endInTokens();
+        pieceOverPiece();
+        faultOver();
         CHECK.finish();
     }
 
@@ -162,6 +166,28 @@ public final class TextEdgesTest {
         int[][] other = {{0, 1}, {0, 2}, {1, 2}, {4, 5}, {4, 6}, {5, 6}, {6, 7}, {0, 4}};
         for (int[] o : other) {
             due("9: " + o[0] + " and " + o[1] + " are not", x.alike(o[0], o[1]), 0);
+        }
+    }
+
+    /** No word of two letters is the same as one of one letter, or another with one letter changed. */
+    private static void wordsApart() {
+        String letters = "abcdefghijklmnopqrstuvwxyz";
+        String own = " to do or ";
+        for (int i = 0; i < 26 * 26; i++) {
+            String two = "" + letters.charAt(i / 26) + letters.charAt(i % 26);
+            if (!own.contains(" " + two + " ")) {
+                for (int from = 0; from < 26; from += 13) {
+                    ByHeart x = Check.with("heap a " + two + " " + String.join(" ", letters.substring(from, from + 13).split("")) + ";");
+                    for (int bar = 1; bar <= 13; bar++) {
+                        due("9: " + two + " and " + letters.charAt(from + bar - 1), x.alike(0, bar), 0);
+                    }
+                }
+            }
+        }
+        String[] pairs = {"aq q", "bq aq", "p ap", "zz zy", "az b", "a aa", "ba abz", "abcdefgh bcdefgh", "zabcdefg abcdefg",
+            "aaaaaaaa baaaaaaa", "zzzzzzzz yzzzzzzz", "azzzzzzz zzzzzzz"};
+        for (String pair : pairs) {
+            due("9: " + pair, Check.with("heap a " + pair + ";").alike(0, 1), 0);
         }
     }
 
@@ -436,6 +462,11 @@ public final class TextEdgesTest {
         x.slow(0, 0);
         due("Terms: gain 100, in the head", x.bar(0, 1), 100);
         due("Terms: half of it in the hold", x.bar(0, 0), 50);
+        // 100 * 10 / 1000 is 1, by 9 it were 0.
+        x.image(0);
+        x.days(1);
+        due("Terms: fade 10", x.bar(0, 1), 99);
+        x.again(0);
         // 50 * 20 / 1000 is 1, by 19 it were 0.
         due("Terms: cross 20", x.behind(2, 0), 1);
         x.slow(0, 0);
@@ -530,5 +561,95 @@ public final class TextEdgesTest {
         due("4: an empty one has no bars", x.piece(), 0);
         due("4: nor has a law alone", Check.tell(x, LAW), 0);
         due("1: heaps", x.about(1), 0);
+    }
+
+    /** Ended within a token, what lies behind the end is no part of it. */
+    private static void endInTokens() {
+        // text, end, fault, place
+        String[] texts = {"heap a xxxxxxxxx;", "heap a x;door 0z;", "heap a x;door 00000;", "heap a x;;", "heap a x;mark 0;", "heap a x;?"};
+        int[][] cases = {{15, 2, 15}, {15, 2, 15}, {18, 2, 18}, {9, 0, -1}, {15, 2, 15}, {9, 0, -1}};
+        for (int i = 0; i < texts.length; i++) {
+            ByHeart x = new ByHeart();
+            Check.type(x, texts[i]);
+            x.end(cases[i][0]);
+            due("3: " + texts[i] + " ended at " + cases[i][0], x.piece(), cases[i][1] == 0 ? 1 : -1);
+            dueAt("3: " + texts[i] + " ended at " + cases[i][0], x, cases[i][1], cases[i][2]);
+        }
+        ByHeart x = new ByHeart();
+        Check.type(x, "heap a x;heap b y;");
+        x.end(8);
+        x.piece();
+        dueAt("3: a sign cut off", x, 2, 8);
+    }
+
+    /** Another piece begins anew, be the one ahead of it one at fault or not. */
+    private static void pieceOverPiece() {
+        String text = "heap a x y;heap b z;part p from a to b;door 0;mark 1;law gain 500 fade 100 cross 0 weak 0 save 4 ear 2;"
+                + "plan q from 0 to 2 times 1 slow 1;";
+        ByHeart x = new ByHeart();
+        for (int i = 0; i < 3; i++) {
+            due("4: the same once more", Check.tell(x, text), 3);
+            due("4: no name is told already", x.fault(0), 0);
+            due("4: another fault", Check.tell(x, text + text), -1);
+            dueAt("4: its own name is", x, 3, text.length() + 5);
+            for (int bar = 0; bar < 3; bar++) {
+                int[] want = {0, 0, 0, -1, bar / 2, bar == 0 ? 1 : 0, bar == 1 ? 1 : 0};
+                for (int what = 0; what < 7; what++) {
+                    due("4: bar(" + bar + ", " + what + ")", x.bar(bar, what), want[what]);
+                }
+            }
+            int[] about = {3, 2, 1, 1, 0, 0, i * 5, 0, 0, 1 + i, 0, 0};
+            for (int what = 0; what < 12; what++) {
+                due("4: about(" + what + ")", x.about(what), about[what]);
+            }
+            due("4: no play", x.latest(0), -1);
+            due("4: no box", x.again(i), -1);
+            // Something of all that can be.
+            x.plan(0);
+            x.finger(1);
+            x.play(0, 2);
+            x.days(3);
+            x.set(0, 2, true);
+            x.set(1, 0, true);
+            x.diary(0, 0, 0);
+            x.paper(0, 0, true);
+            Check.tellRules(x, "when 1 do q;");
+            x.image(i);
+            x.later(5);
+            x.seed(2 + i);
+        }
+        due("4: one with less", Check.tell(x, "heap c u;"), 1);
+        int[] less = {1, 1, 0, 0, 0, 0, 15, 0, 0, 4, 0, 0};
+        for (int what = 0; what < 12; what++) {
+            due("4: about(" + what + ") then", x.about(what), less[what]);
+        }
+        due("4: no door, no mark", x.bar(0, 5) + x.bar(0, 6), 0);
+        due("7: no part", x.part(0, 0), -1);
+        due("21: no plan", x.plan(0), -1);
+    }
+
+    /** Of the latest: one that is fine behind one at fault, and the other way. */
+    private static void faultOver() {
+        ByHeart x = new ByHeart();
+        dueAt("5: of none yet", x, 0, -1);
+        int[] others = {-1, 2, Integer.MAX_VALUE, Integer.MIN_VALUE};
+        for (int what : others) {
+            due("5: fault(" + what + ")", x.fault(what), -1);
+        }
+        Check.tell(x, " ?");
+        dueAt("5: at fault", x, 1, 1);
+        for (int what : others) {
+            due("5: fault(" + what + ")", x.fault(what), -1);
+        }
+        Check.tell(x, "");
+        dueAt("5: fine", x, 0, -1);
+        Check.tellRules(x, "  x");
+        dueAt("5: at fault, of rules", x, 2, 2);
+        Check.tellRules(x, "");
+        dueAt("5: fine, of rules", x, 0, -1);
+        Check.tellRules(x, "?");
+        dueAt("5: at fault, of rules", x, 1, 0);
+        Check.tell(x, "heap a x;");
+        dueAt("5: fine, of a piece", x, 0, -1);
     }
 }
