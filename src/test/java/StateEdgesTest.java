@@ -130,6 +130,11 @@ public final class StateEdgesTest {
         due("1: image(2)", x.image(2), 0);
         due("1: again(2)", x.again(2), 0);
         due("1: piece()", x.piece(), 0);
+        x = new ByHeart();
+        for (int call = 1; call <= 512; call++) {
+            due("What it is: call " + call + " of 512", x.seed(call + 1), call);
+        }
+        x = new ByHeart();
         due("17: days go on without a piece", x.days(1000), 1000);
         due("30: so does the time", x.later(1000), 1000);
         due("23: so do days by rules", x.practise(60) + x.about(7), 1060);
