@@ -972,35 +972,31 @@ public final class ByHeart {
             score.empty();
             tape.open(";");
             for (int i = 0; i < MOST_BYTES && tape.isFine() && !tape.isAtEnd(); i++) {
-                readLine();
+                switch (tape.word) {
+                    case W_HEAP:
+                        readHeap();
+                        break;
+                    case W_PART:
+                        readPart();
+                        break;
+                    case W_DOOR:
+                        score.doors = withBar(score.doors);
+                        break;
+                    case W_MARK:
+                        score.marks = withBar(score.marks);
+                        break;
+                    case W_LAW:
+                        readLaw();
+                        break;
+                    case W_PLAN:
+                        readPlan();
+                        break;
+                    default:
+                        tape.fail(MISPLACED);
+                        break;
+                }
             }
             return tape.isFine();
-        }
-
-        private void readLine() {
-            switch (tape.word) {
-                case W_HEAP:
-                    readHeap();
-                    break;
-                case W_PART:
-                    readPart();
-                    break;
-                case W_DOOR:
-                    score.doors = withBar(score.doors);
-                    break;
-                case W_MARK:
-                    score.marks = withBar(score.marks);
-                    break;
-                case W_LAW:
-                    readLaw();
-                    break;
-                case W_PLAN:
-                    readPlan();
-                    break;
-                default:
-                    tape.fail(MISPLACED);
-                    break;
-            }
         }
 
         /** A name that is not told yet, behind the line's first word; false is a fault. */
@@ -1888,38 +1884,38 @@ public final class ByHeart {
         }
 
         private void readWordUnit() {
-            switch (tape.word) {
-                case W_DAY:
-                    addUnit(Rules.DAY);
-                    break;
-                case W_LEAST:
-                    addUnit(Rules.LEAST);
-                    break;
-                case W_HOLD:
-                    addBarUnit(Rules.HOLD);
-                    break;
-                case W_HEAD:
-                    addBarUnit(Rules.HEAD);
-                    break;
-                case W_CUTS:
-                    addBarUnit(Rules.CUTS);
-                    break;
-                default:
-                    tape.fail(MISPLACED);
-                    break;
+            int kind = kindOf(tape.word);
+            if (kind == NONE) {
+                tape.fail(MISPLACED);
+                return;
             }
-        }
-
-        private void addUnit(int kind) {
-            rules.addStep(kind, 0);
-            tape.advance();
-        }
-
-        private void addBarUnit(int kind) {
-            tape.advance();
-            if (tape.atNumber(0, score.bars - 1)) {
-                rules.addStep(kind, tape.number);
+            int number = 0;
+            if (kind == Rules.HOLD || kind == Rules.HEAD || kind == Rules.CUTS) {
                 tape.advance();
+                if (!tape.atNumber(0, score.bars - 1)) {
+                    return;
+                }
+                number = tape.number;
+            }
+            rules.addStep(kind, number);
+            tape.advance();
+        }
+
+        /** The step that lays what a word stands for; NONE if the word begins no unit. */
+        private static int kindOf(int word) {
+            switch (word) {
+                case W_DAY:
+                    return Rules.DAY;
+                case W_LEAST:
+                    return Rules.LEAST;
+                case W_HOLD:
+                    return Rules.HOLD;
+                case W_HEAD:
+                    return Rules.HEAD;
+                case W_CUTS:
+                    return Rules.CUTS;
+                default:
+                    return NONE;
             }
         }
     }
